@@ -130,6 +130,15 @@ public final class PromiseTests {
     due("second", x.apple(4, 1, 0), 102);
     due("doubles graded", x.count(8), 1);
 
+    x = new CupEye();
+    for (int i = 0; i < 4; i++) {
+      x.lay(110 + i, 10, 1);
+      x.lay(120 + i, 20, 2);
+      x.pass(1);
+    }
+    due("doubles in several ticks", x.pass(11), 8);
+    for (int i = 0; i < 8; i++) due("in their order", x.apple(4, i, 0), 110 + i / 2 + 10 * (i % 2));
+
     for (int lane = 0; lane < 4; lane++) {
       x = new CupEye();
       x.rule(0, 50, 0, 9, lane);
@@ -450,6 +459,14 @@ public final class PromiseTests {
     due("no apple, but the cup has one", x.run(), LIMIT);
     x.pass(11);
     due("it falls out", x.run(), 1);
+    x = new CupEye();
+    type(x, "w60r2b2,&w61r3b3");
+    x.run();
+    type(x, "w62r4b4");
+    x.run();
+    due("nothing is left of a longer text", x.count(1), 2);
+    type(x, "x,x,x,x,x,x,x,x,x,x,x");
+    due("falls of several ticks", x.run(), 3);
   }
 
   private static void cup() {
@@ -542,7 +559,7 @@ public final class PromiseTests {
     for (int l = 0; l < 5; l++) for (int i = 0; i < 6; i++) due("empty", x.box(l, i), none[i]);
     x.rule(0, 100, 0, 9, 2);
     x.water(2);
-    type(x, "w100r30b0,w150r20b4,w200r40b2,w60r100b9,&w70r0b0,w80r5b3");
+    type(x, "w100r20b4,w150r30b0,w200r40b2,w60r100b9,&w70r0b0,w80r5b3");
     x.run();
     x.pass(30);
     int[] lane = {3, 450, 0, 20, 5, 0};
@@ -643,6 +660,7 @@ public final class PromiseTests {
     x.set(1, 4);
     x.set(2, 7);
     x.set(2, 1);
+    due("in a lane and none in the rest", x.count(4), 1);
     int[] told = {2, 4, 4, 1, 1, 0, 5, 0, 1, 0, 0, 17, 4, 1, 7, 4};
     for (int i = 0; i < told.length; i++) due("count(" + i + ")", x.count(i), told[i]);
     x.water(1);
@@ -652,6 +670,7 @@ public final class PromiseTests {
     due("two doubles", x.count(3), 2);
     x.pass(10);
     x.pass(2);
+    due("in lanes and the rest", x.count(4), 7);
     x.empty(4);
     x.drop(0);
     int[] then = {1, 18, 0, 0, 2, 1, 7, 1, 2, 1, 5, 17, 4, 1, 7, 4};
@@ -670,6 +689,12 @@ public final class PromiseTests {
     due("all right", x.right(), 1.0);
     x.drop(0);
     due("one wrong", x.right(), 0.75);
+    CupEye y = new CupEye();
+    y.rule(0, 50, 0, 9, 0);
+    y.lay(100, 0, 0);
+    y.pass(2);
+    y.drop(0);
+    due("one alone, and wrong", y.right(), 0.0);
     x.drop(0);
     due("all wrong", x.right(), 0.0);
     x.rule(0, 115, 0, 9, 0);
@@ -713,7 +738,10 @@ public final class PromiseTests {
     due("and later", x.ifPassed(2, 2), 2);
     x.pass(1);
     x.set(2, 1);
-    due("earlier ones are not counted", x.ifPassed(1, 1), 1);
+    x.pass(1);
+    due("one ran over", x.count(7), 1);
+    due("earlier ones are not counted", x.ifPassed(30, 1), 0);
+    due("none of them is the first", x.ifPassed(30, 3), NOT_FOUND);
   }
 
   private static void tightest() {
@@ -794,6 +822,7 @@ public final class PromiseTests {
         if (!history) due("change " + i + " undone, look " + k, after[k], before[k]);
       }
     }
+    tallies();
     CupEye z = new CupEye();
     for (int i = 1; i <= 7; i++) z.set(1, i);
     due("four states", z.count(15), 4);
@@ -802,6 +831,31 @@ public final class PromiseTests {
       due("the states in their order", z.count(12), i);
     }
     due("older ones are gone", z.undo(), NOT_POSSIBLE);
+  }
+
+  /** The tallies and what is in the boxes come back, too. */
+  private static void tallies() {
+    CupEye x = new CupEye();
+    x.rule(0, 100, 0, 9, 0);
+    x.water(0);
+    x.set(2, 1);
+    type(x, "w100r1b1,w101r1b1,w60r2b2,&w61r3b3,x,x,x,x,x,x,x,x,x,x,x");
+    x.run();
+    due("bruised, over, double, fallen", x.count(9) * 1000 + x.count(7) * 100 + x.count(8) * 10 + x.count(4), 1114);
+    x.empty(0);
+    x.empty(4);
+    type(x, "w200r1b9,w201r9b1,w160r2b2,x,w90r2b2,&w91r3b3,x,x");
+    x.run();
+    due("another one", x.apple(0, 0, 0), 200);
+    x.undo();
+    x.undo();
+    due("of the rest again", x.apple(4, 0, 0), 101);
+    due("of the rest again", x.apple(4, 2, 0), 61);
+    x.undo();
+    due("of the lane again", x.apple(0, 0, 0), 100);
+    due("bruised, over, double, fallen", x.count(9) * 1000 + x.count(7) * 100 + x.count(8) * 10 + x.count(4), 1114);
+    x.undo();
+    for (int i = 1; i <= 10; i++) due("tally " + i, x.count(i), 0);
   }
 
   private static void save() {
