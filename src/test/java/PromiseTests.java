@@ -392,6 +392,11 @@ public final class PromiseTests {
     faultIs(1, "x", 0);
     faultIs(1, "w49r0b0>0", 1);
     faultIs(1, "w050r0b0>0", 1);
+    type(x, "w50r0b0>0");
+    type(x, "w50r0b");
+    due("nothing is left of a longer text", x.fault(0), 6);
+    type(x, "w50r0b0");
+    due("nothing is left of a longer text", x.fault(1), 7);
     String full = "w50r0b0,w50r0b0,w50r0b0,w50r0b0,w50r0b0,w50r0b0,w50r0b0,x,x,";
     faultIs(0, full.substring(0, 59), NOT_FOUND);
     faultIs(0, full.substring(0, 60), 60);
