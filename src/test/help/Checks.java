@@ -54,6 +54,37 @@ final class Checks {
     }
   }
 
+  static CupEye typed(String text) {
+    CupEye x = new CupEye();
+    type(x, text);
+    return x;
+  }
+
+  /** With a rule that every apple meets. */
+  static CupEye allTo(int lane) {
+    CupEye x = new CupEye();
+    x.rule(0, 50, 0, 9, lane);
+    return x;
+  }
+
+  /** As many apples, 100 and more in weight, in the box of a lane; the belt is empty. */
+  static CupEye filled(int lane, int apples) {
+    CupEye x = allTo(lane);
+    x.set(CupEye.FILL, 20);
+    for (int i = 0; i < apples; i++) {
+      x.lay(100 + i, 50, 0);
+      x.pass(1);
+    }
+    x.pass(12);
+    return x;
+  }
+
+  static CupEye withRules(int number) {
+    CupEye x = new CupEye();
+    for (int i = 0; i < number; i++) x.rule(i, 60 + i, i, i, i % 4);
+    return x;
+  }
+
   /** What is within the range is not refused as out of it; what is outside is. */
   static void range(String what, int least, int most, Ranged call) {
     for (int value : new int[] {least, least + 1, most - 1, most}) {

@@ -47,6 +47,36 @@ public final class HistoryTests {
     Checks.type(x, "w50r0b0");
   }
 
+  /**
+   * Apples in all boxes but the rest. With the next tick an apple falls into a dry lane, one runs over, one falls out,
+   * and a double is graded.
+   */
+  private static void brink(CupEye x) {
+    for (int lane = 3; lane >= 0; lane--) x.rule(3 - lane, 100 + 50 * lane, 0, 9, lane);
+    x.set(CupEye.FILL, 2);
+    Checks.type(x, "w250r1b1,w200r2b2,w150r3b3,w100r4b4,w101r5b5");
+    x.run();
+    x.pass(8);
+    x.water(1);
+    x.lay(50, 9, 9);
+    x.pass(8);
+    Checks.type(x, "w151r6b6,x,w102r7b7");
+    x.run();
+    x.save();
+    x.lay(61, 6, 6);
+    x.lay(62, 7, 7);
+    Checks.type(x, "w50r0b0");
+  }
+
+  /** The same state with an empty history: four changes are undone again. */
+  private static Checks.Way withoutHistory(Checks.Way state) {
+    return x -> {
+      state.go(x);
+      for (int i = 0; i < 4; i++) x.water(3);
+      for (int i = 0; i < 4; i++) x.undo();
+    };
+  }
+
   /** Two apples below the eye, eight rules, sixty characters. */
   private static void full(CupEye x) {
     for (int i = 0; i < 8; i++) x.rule(i, 60 + i, i, i, i % 4);
@@ -321,14 +351,10 @@ public final class HistoryTests {
 
   private static void undo() {
     test("undo: Undoes the latest change: everything but the pad and the snapshot is as it was before it.", () -> {
-      for (int i = 0; i < CHANGES.length; i++) {
-        Checks.Call change = CHANGES[i];
-        // Without a fifth state: the change would drop the oldest one for good.
-        Checks.Way state = x -> {
-          busy(x);
-          x.undo();
-        };
-        Checks.same("change " + i + " and undo", x -> {
+      for (int i = 0; i < 2 * CHANGES.length; i++) {
+        Checks.Call change = CHANGES[i / 2];
+        Checks.Way state = withoutHistory(i % 2 == 0 ? HistoryTests::busy : HistoryTests::brink);
+        Checks.same("change " + i / 2 + " and undo", x -> {
           state.go(x);
           change.ask(x);
           x.undo();
@@ -351,6 +377,40 @@ public final class HistoryTests {
         x.run();
         x.undo();
       }, cleared);
+    });
+    test("undo: (what one tick brings: a bruise, an apple that runs over, one that falls out, a graded double)", () -> {
+      CupEye x = led(HistoryTests::brink);
+      int[] before = {2, 0, 0, 0, 5};
+      int[] after = {2, 1, 1, 1, 7};
+      for (int i = 0; i < 2; i++) {
+        int[] told = i == 0 ? before : after;
+        due("apples in the box 0", x.box(0, 0), told[0]);
+        for (int what = 7; what <= 9; what++) due("count(" + what + ")", x.count(what), told[what - 6]);
+        due("in boxes", x.count(4), told[4]);
+        if (i == 0) due("fall", x.pass(1), 2);
+      }
+      x.undo();
+      for (int what = 7; what <= 9; what++) due("undone, count(" + what + ")", x.count(what), before[what - 6]);
+      due("undone, in boxes", x.count(4), before[4]);
+    });
+    test("undo: (a box that was emptied and filled anew has its first apples again)", () -> {
+      int[] weights = {110, 160, 210, 260, 60};
+      for (int box = 0; box < 5; box++) {
+        int lane = box;
+        Checks.Call[] steps = {x -> x.pass(1), x -> x.empty(lane), x -> x.lay(weights[lane], 77, 7), x -> x.pass(12)};
+        for (int back = 1; back <= 4; back++) {
+          int left = 4 - back;
+          int times = back;
+          Checks.same("box " + box + ", " + back + " undone", x -> {
+            withoutHistory(HistoryTests::brink).go(x);
+            for (Checks.Call step : steps) step.ask(x);
+            for (int i = 0; i < times; i++) x.undo();
+          }, x -> {
+            withoutHistory(HistoryTests::brink).go(x);
+            for (int i = 0; i < left; i++) steps[i].ask(x);
+          });
+        }
+      }
     });
     test("undo: but the pad and the snapshot", () -> {
       CupEye x = new CupEye();
@@ -441,48 +501,61 @@ public final class HistoryTests {
     });
   }
 
-  /** Upsets all that a state has. */
+  /** Upsets all that a state has: other apples are in all boxes and on the belt, and every tally has grown. */
   private static void upset(CupEye x) {
     x.pass(30);
-    x.lay(60, 6, 6);
-    x.rule(0, 60, 6, 6, 3);
-    x.drop(1);
-    for (int lane = 0; lane < 4; lane++) x.water(lane);
     x.set(CupEye.BIAS, 20);
     x.set(CupEye.GLOW, 9);
-    x.set(CupEye.FILL, 20);
-    x.empty(0);
-    x.empty(4);
-    x.pass(1);
+    x.set(CupEye.FILL, 1);
+    for (int box = 0; box < 5; box++) x.empty(box);
+    for (int lane = 0; lane < 4; lane++) {
+      x.water(lane);
+      x.rule(0, 50, 0, 9, lane);
+      x.lay(240 + lane, 90, lane);
+      x.pass(1);
+      x.lay(245 + lane, 91, lane);
+      x.pass(1);
+      x.drop(0);
+    }
+    x.lay(250, 92, 1);
+    x.lay(251, 93, 2);
+    x.pass(12);
+    x.rule(0, 60, 6, 6, 3);
+    x.drop(1);
+    x.lay(60, 6, 6);
+  }
+
+  /** Five restores make the histories the same, too. */
+  private static void restoredAgain(Checks.Way state) {
+    Checks.Way plain = x -> {
+      state.go(x);
+      x.save();
+      for (int i = 0; i < 5; i++) x.restore();
+    };
+    Checks.same("upset, then restored", x -> {
+      state.go(x);
+      x.save();
+      upset(x);
+      for (int i = 0; i < 5; i++) x.restore();
+    }, plain);
+    Checks.same("upset after it was restored", x -> {
+      state.go(x);
+      x.save();
+      x.restore();
+      upset(x);
+      for (int i = 0; i < 5; i++) x.restore();
+    }, plain);
+    Checks.same("undone to the start, then restored", x -> {
+      state.go(x);
+      x.save();
+      for (int i = 0; i < 5; i++) x.undo();
+      for (int i = 0; i < 5; i++) x.restore();
+    }, plain);
   }
 
   private static void restore() {
     test("restore: Restores the snapshot, which stays.", () -> {
-      // Four changes ahead of the restore make the histories the same, too.
-      Checks.Way plain = x -> {
-        busy(x);
-        x.save();
-        for (int i = 0; i < 4; i++) x.restore();
-      };
-      Checks.same("upset, then restored", x -> {
-        busy(x);
-        x.save();
-        upset(x);
-        for (int i = 0; i < 5; i++) x.restore();
-      }, plain);
-      Checks.same("upset after it was restored", x -> {
-        busy(x);
-        x.save();
-        x.restore();
-        upset(x);
-        for (int i = 0; i < 5; i++) x.restore();
-      }, plain);
-      Checks.same("undone to the start, then restored", x -> {
-        busy(x);
-        x.save();
-        for (int i = 0; i < 5; i++) x.undo();
-        for (int i = 0; i < 5; i++) x.restore();
-      }, plain);
+      for (Checks.Way state : new Checks.Way[] {HistoryTests::busy, HistoryTests::brink}) restoredAgain(state);
     });
     test("restore: (the snapshot has neither the pad nor the history)", () -> {
       CupEye x = new CupEye();
